@@ -1,3 +1,7 @@
+/*
+ * Signatures on a curve over a great prime, by one and by several together. All that a call works with
+ * is made in the constructor and used again, as what calls make is never given back.
+ */
 public final class JointSigns {
   public static final int BAD = -1, NO = -2, FULL = -3, NONE = -4, SPENT = -5;
 
@@ -1036,8 +1040,12 @@ public final class JointSigns {
       r.product(q.y, t);
       r.product(r, p.z);
       r.difference(r, s);
+      if (h.isZero() && r.isZero()) {
+        twice(p);
+        return;
+      }
       if (h.isZero()) {
-        meet(p);
+        p.nought = true;
         return;
       }
       p.z.product(p.z, q.z);
@@ -1053,15 +1061,6 @@ public final class JointSigns {
       u.product(u, r);
       s.product(s, h);
       p.y.difference(u, s);
-    }
-
-    // The two points have one x: they are the same, or they make nought.
-    private void meet(Point p) {
-      if (r.isZero()) {
-        twice(p);
-      } else {
-        p.nought = true;
-      }
     }
 
     /* out becomes k times p; both may be one point. */
