@@ -136,27 +136,36 @@ public final class ManyTest {
     p.entry(5, 1, 3, 1);
     Check.due("another key", p.manyHold(), 0);
     Check.due("work", p.count(5), 12);
+    p.entry(2, 1, 3, 1);
+    p.entry(5, 1, 3, 7);
+    Check.due("another key beside a good one", p.manyHold(), 0);
+    p.entry(2, 1, 3, 1);
+    Check.due("what is gone does not count", p.manyHold(), 1);
+    Check.due("work", p.count(5), 20);
   }
 
-  /** One s more and one less: together they hold, if they weigh the same. */
+  /** One s is too great and one too small: they hold together just by the weights that make that nought. */
   private static void errorsThatMakeNought() {
+    long[] factors = {1, 2, (1L << 32) + 1, (1L << 32) + 1, 1L << 61, MOST, MOST};
+    long[] errors = {1, 1, 1, (1L << 32) + 1, 1L << 61, MOST, MOST - 1};
+    int[] wanted = {1, 0, 0, 1, 1, 1, 0};
     Pair p = signed();
-    long[] factors = {1, 2, 1};
-    int[] wanted = {1, 0, 1};
-    BigInteger first = Model.number(p.model.rows[3], 32, 64).add(BigInteger.ONE);
-    BigInteger second = Model.number(p.model.rows[6], 32, 64).subtract(BigInteger.ONE);
-    p.number(8, Model.number(p.model.rows[3], 0, 32));
-    p.number(9, first.mod(Model.N));
-    p.copy(3, 8, 9);
-    p.number(8, Model.number(p.model.rows[6], 0, 32));
-    p.number(9, second.mod(Model.N));
-    p.copy(6, 8, 9);
-    for (int i = 0; i < 3; i++) {
-      p.entry(2, 1, 3, 1);
-      p.entry(5, 7, 6, factors[i]);
-      Check.due("one more and one less", p.manyHold(), wanted[i]);
+    spoil(p, 6, 8, BigInteger.ONE.negate());
+    for (int i = 0; i < factors.length; i++) {
+      spoil(p, 3, 9, BigInteger.valueOf(errors[i]));
+      p.entry(2, 1, 9, 1);
+      p.entry(5, 7, 8, factors[i]);
+      Check.due("factor " + factors[i] + ", error " + errors[i], p.manyHold(), wanted[i]);
     }
-    Check.due("one more alone", p.holds(2, 1, 3), 0);
+    Check.due("none of them alone", p.holds(2, 1, 9), 0);
+    Check.due("none of them alone", p.holds(5, 7, 8), 0);
+  }
+
+  /** A signature with another s in row to. */
+  private static void spoil(Pair p, int from, int to, BigInteger error) {
+    p.number(10, Model.number(p.model.rows[from], 0, 32));
+    p.number(11, Model.number(p.model.rows[from], 32, 64).add(error).mod(Model.N));
+    p.copy(to, 10, 11);
   }
 
   private static void amiss() {

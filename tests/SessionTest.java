@@ -482,6 +482,9 @@ public final class SessionTest {
     p.number(15, Model.N.subtract(BigInteger.ONE));
     Check.due("rows 14 and 15", p.together(6, 14), 64);
     p.row(6);
+    p.number(14, 1);
+    Check.due("1 and one less than N", p.together(6, 14), 64);
+    p.row(6);
     p.number(14, Model.N);
     Check.due("the first is N", p.together(6, 14), NO);
     p.number(14, 0);

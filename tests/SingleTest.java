@@ -15,6 +15,7 @@ public final class SingleTest {
     holds();
     holdsNot();
     amissAhead();
+    bounds();
     oddAndNought();
     holdsRefused();
     Check.end();
@@ -237,6 +238,30 @@ public final class SingleTest {
     p.copy(5, 4, 7);
     Check.due("s is 0", p.holds(4, 1, 5), 0);
     Check.due("is judged", p.count(5), 7);
+  }
+
+  /** Which r and s are below P and N is told by the work that is taken. */
+  private static void bounds() {
+    BigInteger top = BigInteger.ONE.shiftLeft(256);
+    BigInteger low = BigInteger.ONE.shiftLeft(58).subtract(BigInteger.ONE);
+    BigInteger[] numbers = {Model.P.subtract(BigInteger.ONE), Model.P, Model.P.add(BigInteger.ONE),
+        top.subtract(BigInteger.ONE), top.subtract(BigInteger.ONE.shiftLeft(200)).add(low),
+        top.subtract(BigInteger.ONE.shiftLeft(90)).add(low), top.shiftRight(24).subtract(BigInteger.ONE), low,
+        Model.N.subtract(BigInteger.ONE), Model.N, Model.N.add(BigInteger.ONE),
+        Model.N.subtract(BigInteger.ONE.shiftLeft(128)).add(low), Model.N.add(BigInteger.ONE.shiftLeft(64))};
+    Pair p = signed();
+    p.number(8, 1);
+    for (BigInteger number : numbers) {
+      p.number(7, number);
+      p.copy(5, 7, 8);
+      int work = p.count(5);
+      p.holds(4, 1, 5);
+      Check.due("work for r " + number.toString(16), p.count(5) - work, number.compareTo(Model.P) < 0 ? 2 : 0);
+      p.copy(5, 8, 7);
+      work = p.count(5);
+      p.holds(4, 1, 5);
+      Check.due("work for s " + number.toString(16), p.count(5) - work, number.compareTo(Model.N) < 0 ? 2 : 0);
+    }
   }
 
   /** The right x with an odd y, and nought in the place of a point. */

@@ -780,16 +780,8 @@ public final class JointSigns {
       return (low | (l5 ^ a.l5) | (l6 ^ a.l6) | (l7 ^ a.l7) | (l8 ^ a.l8)) == 0;
     }
 
-    void sum(Coordinate a, Coordinate b) {
-      l0 = a.l0 + b.l0;
-      l1 = a.l1 + b.l1;
-      l2 = a.l2 + b.l2;
-      l3 = a.l3 + b.l3;
-      l4 = a.l4 + b.l4;
-      l5 = a.l5 + b.l5;
-      l6 = a.l6 + b.l6;
-      l7 = a.l7 + b.l7;
-      l8 = a.l8 + b.l8;
+    void addSmall(int value) {
+      l0 += value;
       carry();
     }
 
@@ -984,13 +976,12 @@ public final class JointSigns {
     final Point generator = new Point();
     private final Point[] multiples = new Point[BASE];
     private final Powers powers = new Powers();
-    private final Coordinate one = new Coordinate(), seven = new Coordinate();
+    private final Coordinate one = new Coordinate();
     private final Coordinate u = new Coordinate(), s = new Coordinate(), h = new Coordinate();
     private final Coordinate r = new Coordinate(), t = new Coordinate();
 
     Curve() {
       one.becomeWords(0, 0, 0, 1);
-      seven.becomeWords(0, 0, 0, 7);
       for (int i = 0; i < BASE; i++) {
         multiples[i] = new Point();
       }
@@ -1103,7 +1094,7 @@ public final class JointSigns {
       }
       t.product(out.x, out.x);
       t.product(t, out.x);
-      t.sum(t, seven);
+      t.addSmall(7);
       powers.stem(out.y, t);
       out.y.product(out.y, t);
       u.product(out.y, out.y);
