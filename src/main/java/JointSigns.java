@@ -128,12 +128,12 @@ public final class JointSigns {
     if (wouldPass(2)) {
       return SPENT;
     }
-    work += 1;
+    // All of it ahead, as the document tells no other amount for a signature that can not be.
+    work += 2;
     single.findOwn();
     if (!single.drawNonce(rows[m], rows[a])) {
       return NO;
     }
-    work += 1;
     single.makeSignature(rows[m], made);
     return answerIn(to);
   }
