@@ -17,6 +17,9 @@ final class Model {
   static final Dot NOUGHT = new Dot(null, null);
   static final Dot G = lift(new BigInteger("79be667ef9dcbbac55a06295ce870b07029bfcdb2dce28d959f2815b16f81798", 16));
 
+  /** What every digest is instead of its own, if it is any. */
+  static byte[] forced = null;
+
   record Dot(BigInteger x, BigInteger y) {
     boolean nought() {
       return x == null;
@@ -119,6 +122,9 @@ final class Model {
   }
 
   static byte[] digest(byte[] bytes) {
+    if (forced != null) {
+      return forced;
+    }
     try {
       return MessageDigest.getInstance("SHA-256").digest(bytes);
     } catch (NoSuchAlgorithmException e) {
@@ -284,6 +290,9 @@ final class Model {
     byte[] key = bytes32(own.x);
     byte[] t = turned(bytes32(d), digestBy(0, rows[a]));
     BigInteger k = numberBy(1, t, key, rows[m]);
+    if (k.signum() == 0) {
+      return -2;
+    }
     Dot r = G.times(k);
     k = r.even() ? k : N.subtract(k);
     BigInteger e = numberBy(2, bytes32(r.x), key, rows[m]);
@@ -426,7 +435,7 @@ final class Model {
       return -5;
     }
     work += signers.size();
-    return become(to, bytes32(joint().x));
+    return joint().nought() ? -2 : become(to, bytes32(joint().x));
   }
 
   int nonce(int to, int j, int secret, int z, int m) {
@@ -445,7 +454,11 @@ final class Model {
     if (!Arrays.equals(G.times(d).bytes(), signer.key)) {
       return -2;
     }
-    work += 2 + signers.size();
+    work += signers.size();
+    if (joint().nought()) {
+      return -2;
+    }
+    work += 2;
     byte[] hidden = turned(bytes32(d), digestBy(5, rows[z]));
     byte[] key = bytes32(joint().x);
     byte[] length = {0, 0, 0, 0, 0, 0, 0, (byte) rows[m].length};
@@ -453,6 +466,9 @@ final class Model {
     for (int i = 0; i < 2; i++) {
       k[i] = numberBy(6, hidden, new byte[] {33}, signer.key, new byte[] {32}, key, new byte[] {1}, length, rows[m],
           new byte[] {0, 0, 0, 0, (byte) i});
+    }
+    if (k[0].signum() == 0 || k[1].signum() == 0) {
+      return -2;
     }
     signer.k1 = k[0];
     signer.k2 = k[1];
@@ -486,9 +502,13 @@ final class Model {
     if (spent(1 + signers.size())) {
       return -5;
     }
-    work += 1 + signers.size();
+    work += signers.size();
     Session made = new Session();
     made.q = joint();
+    if (made.q.nought()) {
+      return -2;
+    }
+    work++;
     byte[] key = bytes32(made.q.x);
     Dot first = NOUGHT;
     Dot second = NOUGHT;

@@ -241,10 +241,14 @@ public final class JointSigns {
       return NO;
     }
     work += group.size;
-    if (!group.joinKeys() || !group.drawNonce(j, rows[z], rows[m])) {
+    if (!group.joinKeys()) {
       return NO;
     }
+    // All of it ahead, as the document tells no other amount for a nonce that can not be.
     work += 2;
+    if (!group.drawNonce(j, rows[z], rows[m])) {
+      return NO;
+    }
     group.tellNonce(j, made);
     return answerIn(to);
   }
