@@ -61,6 +61,7 @@ public final class BoundsOneTest {
     manyHoldOneBent();
     manyHoldAmiss();
     manyHoldBounds();
+    manyHoldAfterMore();
     manyHoldSpent();
     manyHoldAmissAheadOfSpent();
     Check.end();
@@ -114,7 +115,7 @@ public final class BoundsOneTest {
   }
 
   private static void keyRows() {
-    SIGNED.rows("key", 33, new int[] {7, 1}, new int[] {0, 1}, 0, (x, a) -> x.key(a[0], a[1], 1));
+    SIGNED.becomes("key", 33, new int[] {7, 1}, new int[] {0, 1}, 0, (x, a) -> x.key(a[0], a[1], 1));
   }
 
   private static void keyOntoItself() {
@@ -201,7 +202,7 @@ public final class BoundsOneTest {
   }
 
   private static void signRows() {
-    SIGNED.rows("sign", 64, new int[] {7, 1, 5, 4}, new int[] {0, 1, 2, 3}, 0,
+    SIGNED.becomes("sign", 64, new int[] {7, 1, 5, 4}, new int[] {0, 1, 2, 3}, 0,
         (x, a) -> x.sign(a[0], a[1], a[2], a[3]));
   }
 
@@ -517,6 +518,27 @@ public final class BoundsOneTest {
     for (BigInteger s : numbers) {
       Scene scene = with(2, 1, x -> Rows.numbers(x, 3, Model.G.x(), s));
       scene.changes("s " + s, 0, 5, JointSigns::manyHold, ENTRIES);
+    }
+  }
+
+  /** Nothing is left of four entries that do not hold. */
+  private static void manyHoldAfterMore() {
+    Scene four = SIGNED.behind(x -> {
+      x.bend(5, 0, 1);
+      for (int i = 1; i <= 4; i++) {
+        x.entry(2, 5, 3, i);
+      }
+      x.manyHold();
+      x.bend(5, 0, 1);
+    });
+    for (int n = 1; n <= 4; n++) {
+      int entries = n;
+      Scene fewer = four.behind(x -> {
+        for (int i = 1; i <= entries; i++) {
+          x.entry(2, 5, 3, i);
+        }
+      });
+      fewer.changes(n + " entries where 4 were", 1, 1 + 2 * n, JointSigns::manyHold, ENTRIES);
     }
   }
 

@@ -174,7 +174,7 @@ public final class BoundsPartsTest {
   }
 
   private static void partRows() {
-    session(2).rows("part", 32, new int[] {7, 1}, new int[] {0, 1}, 0, (x, a) -> x.part(a[0], 1, a[1]));
+    session(2).becomes("part", 32, new int[] {7, 1}, new int[] {0, 1}, 0, (x, a) -> x.part(a[0], 1, a[1]));
   }
 
   private static void partOntoItself() {
@@ -384,9 +384,9 @@ public final class BoundsPartsTest {
   }
 
   private static void togetherRows() {
-    session(1).behind(x -> Rows.number(x, 12, 3)).rows("together", 64, new int[] {7, 12}, new int[] {0, 1}, 0,
+    session(1).behind(x -> Rows.number(x, 12, 3)).becomes("together", 64, new int[] {7, 12}, new int[] {0, 1}, 0,
         (x, a) -> x.together(a[0], a[1]));
-    parts(3).rows("together", 64, new int[] {7, 12}, new int[] {0}, 0, (x, a) -> x.together(a[0], a[1]));
+    parts(3).becomes("together", 64, new int[] {7, 12}, new int[] {0}, 0, (x, a) -> x.together(a[0], a[1]));
   }
 
   private static void togetherRefusesTheFirstOfSeveral() {

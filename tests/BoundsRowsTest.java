@@ -323,7 +323,7 @@ public final class BoundsRowsTest {
   }
 
   private static void copyRows() {
-    ROWS.rows("copy", 9, new int[] {12, 3, 2}, new int[] {0, 1}, 0, (x, a) -> x.copy(a[0], a[1], a[2]));
+    ROWS.becomes("copy", 9, new int[] {12, 3, 2}, new int[] {0, 1}, 0, (x, a) -> x.copy(a[0], a[1], a[2]));
     JointSigns x = ROWS.open();
     x.put(15, 2, 0x0102);
     Check.due("more is row 15", x.copy(12, 2, 15), 3);
@@ -401,7 +401,7 @@ public final class BoundsRowsTest {
   }
 
   private static void hashRows() {
-    ROWS.rows("hash", 32, new int[] {12, 3}, new int[] {0, 1}, 0, (x, a) -> x.hash(a[0], 2, a[1]));
+    ROWS.becomes("hash", 32, new int[] {12, 3}, new int[] {0, 1}, 0, (x, a) -> x.hash(a[0], 2, a[1]));
   }
 
   /** None of these takes WORK: they are answered where no WORK is left. */

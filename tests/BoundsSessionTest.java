@@ -145,7 +145,7 @@ public final class BoundsSessionTest {
   }
 
   private static void nonceRows() {
-    session(2).rows("nonce", 66, new int[] {7, 1, 4, 5}, new int[] {0, 1, 2, 3}, 0,
+    session(2).becomes("nonce", 66, new int[] {7, 1, 4, 5}, new int[] {0, 1, 2, 3}, 0,
         (x, a) -> x.nonce(a[0], 1, a[1], a[2], a[3]));
   }
 
@@ -490,7 +490,7 @@ public final class BoundsSessionTest {
     int[] sizes = {66, 32, 32, 32};
     for (int what = 0; what < 4; what++) {
       int asked = what;
-      session(2).rows("about", sizes[what], new int[] {7}, new int[] {0}, 0, (x, a) -> x.about(a[0], asked));
+      session(2).becomes("about", sizes[what], new int[] {7}, new int[] {0}, 0, (x, a) -> x.about(a[0], asked));
     }
   }
 

@@ -24,6 +24,8 @@ public final class BoundsSignersTest {
     noSignersOneToFour();
     noSignersLeaveAllElse();
     noSignersThenNewOnes();
+    noSignersThenFewer();
+    noSignersThenASession();
     jointKeyOneToFour();
     jointKeyOfAllAlike();
     jointKeyBySecond();
@@ -202,6 +204,54 @@ public final class BoundsSignersTest {
     }
   }
 
+  private static void clearAll(JointSigns x) {
+    for (int row = 0; row < 16; row++) {
+      x.clear(row);
+    }
+  }
+
+  /** Nothing is left of four SIGNERS that had told and had a JOINT KEY. */
+  private static void noSignersThenFewer() {
+    Scene four = new Scene(x -> {
+      Stage.signers(x, 11, -12, 13, 14);
+      for (int j = 0; j < 4; j++) {
+        Rows.fill(x, 7, Stage.point(21 + j) + Stage.point(-31 - j));
+        x.told(j, 7);
+      }
+      x.jointKey(6);
+      x.noSigners();
+      clearAll(x);
+    });
+    for (int n = 1; n <= 4; n++) {
+      long[] secrets = some(n);
+      four.behind(x -> Stage.signers(x, secrets)).like(n + " SIGNERS where 4 were", signers(n));
+      Scene told = four.behind(x -> tellPoints(x, secrets));
+      told.like(n + " that told where 4 had", new Scene(x -> tellPoints(x, secrets)));
+    }
+  }
+
+  private static void tellPoints(JointSigns x, long... secrets) {
+    Stage.signers(x, secrets);
+    for (int j = 0; j < secrets.length; j++) {
+      Rows.fill(x, 7, Stage.point(41 + j) + Stage.point(51 + j));
+      x.told(j, 7);
+    }
+    x.session(5);
+  }
+
+  /** Nothing is left of a SESSION with PARTS and THE SIGNATURE. */
+  private static void noSignersThenASession() {
+    Scene two = new Scene(x -> {
+      Stage.session(x, 11, -12);
+      Stage.parts(x);
+      x.together(7, 12);
+      x.noSigners();
+      clearAll(x);
+    });
+    two.behind(x -> Stage.session(x, some(1))).like("a SESSION of 1 where 2 were", new Scene(x -> Stage.session(x, some(1))));
+    two.behind(x -> Stage.session(x, some(2))).like("a SESSION of 2 where 2 were", new Scene(x -> Stage.session(x, some(2))));
+  }
+
   // ---- promise 16: jointKey
 
   private static void jointKeyOneToFour() {
@@ -257,7 +307,7 @@ public final class BoundsSignersTest {
   }
 
   private static void jointKeyRows() {
-    signers(2).rows("jointKey", 32, new int[] {7}, new int[] {0}, 0, (x, a) -> x.jointKey(a[0]));
+    signers(2).becomes("jointKey", 32, new int[] {7}, new int[] {0}, 0, (x, a) -> x.jointKey(a[0]));
     signers(0).rows("jointKey", NO, new int[] {7}, new int[] {0}, -1, (x, a) -> x.jointKey(a[0]));
   }
 

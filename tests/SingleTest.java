@@ -39,8 +39,9 @@ public final class SingleTest {
   }
 
   private static void manyKeys() {
-    Pair p = new Pair();
+    Pair p = null;
     for (int i = 0; i < 44; i++) {
+      p = i % 22 == 0 ? new Pair() : p;
       BigInteger d = BigInteger.ONE.shiftLeft(i * 6);
       p.number(0, i % 3 == 0 ? d : i % 3 == 1 ? d.subtract(BigInteger.ONE) : Model.N.subtract(d));
       p.key(1, 0, 1);

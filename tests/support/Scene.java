@@ -58,6 +58,11 @@ final class Scene {
     Check.due(what + ": changed", State.differences(state, then).toString(), new TreeSet<>(List.of(pieces)).toString());
   }
 
+  /** All is as it is in another scene, but WORK. */
+  void like(String what, Scene other) {
+    Check.due(what + ": otherwise", State.differences(State.of(this::open), State.of(other::open)).toString(), "[]");
+  }
+
   /** The call answers this and takes that WORK; all else is as it was. */
   void still(String what, int want, int work, ToIntFunction<JointSigns> call) {
     changes(what, want, work, call);
@@ -97,6 +102,17 @@ final class Scene {
       }
       noRows(what, numbers, place, call);
     }
+  }
+
+  /** As rows, and what comes takes the place of all 100 bytes that the ROW had. */
+  void becomes(String what, int want, int[] numbers, int[] places, int to, Call call) {
+    rows(what, want, numbers, places, to, call);
+    JointSigns x = open();
+    call.of(x, numbers);
+    JointSigns y = behind(z -> Rows.size(z, numbers[to], 100)).open();
+    Check.due(what + " onto 100 bytes", call.of(y, numbers), want);
+    Check.due(what + " onto 100 bytes: size", y.at(numbers[to], -1), want);
+    Check.due(what + " onto 100 bytes: came", Rows.read(y, numbers[to]), Rows.read(x, numbers[to]));
   }
 
   private void noRows(String what, int[] numbers, int place, Call call) {
