@@ -24,6 +24,7 @@ public final class ForcedDigest {
     jointKeysAndTheModel();
     nonceThatCanNotBe();
     nonceOfOneHalfThatCanNotBe();
+    sessionStaysWhereNoJointKeyIs();
     sessionsWhereRIsNought();
     sessionsAndTheModel();
     unforce();
@@ -223,6 +224,20 @@ public final class ForcedDigest {
       };
       scene.still("half " + half + " can not be", NO, 5, call);
       scene.spends("half " + half + " can not be", 5, NO, call);
+    }
+  }
+
+  /** The SESSION that was is opened by other digests, by which there is a JOINT KEY. */
+  private static void sessionStaysWhereNoJointKeyIs() {
+    force(BigInteger.TWO);
+    JointSigns x = signers(5, 5).behind(y -> y.session(5)).open();
+    Check.due("a SESSION", x.count(3), 1);
+    String was = State.about(x);
+    for (BigInteger digest : ZEROS) {
+      force(digest);
+      last("for another SESSION", x, 2, y -> y.session(4));
+      Check.due("the SESSION stays", x.count(3), 1);
+      Check.due("what is told of it", State.about(x), was);
     }
   }
 

@@ -60,7 +60,8 @@ final class State {
     pieces.put("manyHold", x.manyHold() + ":" + (x.count(5) - had));
   }
 
-  private static String about(JointSigns x) {
+  /** What is told of a SESSION; ROW 15 is taken for it. */
+  static String about(JointSigns x) {
     StringBuilder text = new StringBuilder();
     for (int what = 0; what < 4; what++) {
       x.clear(15);
